@@ -1361,7 +1361,7 @@ public final class EightReasons {
             int first = pointNamed();
             expect(NAME);
             int second = pointNamed();
-            if (fault == 0 && !mayLead(first, second)) {
+            if (kind == NAME && !mayLead(first, second)) {
                 blame(FAULT_NAME);
             }
             expect(NAME);
