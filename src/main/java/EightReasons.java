@@ -153,7 +153,7 @@ public final class EightReasons {
         unused = old;
         bytes = 0;
         acts.forget();
-        now().begin(told);
+        now().startAs(told);
         filled = 0;
         witness.count = 0;
         lyingCount = 0;
@@ -249,7 +249,7 @@ public final class EightReasons {
     }
 
     private State now() {
-        return acts.now();
+        return acts.state();
     }
 
     // ---- ACTS ----
@@ -258,7 +258,7 @@ public final class EightReasons {
         if (!isTied(strand)) {
             return NONE;
         }
-        acts.advance().tied ^= 1 << strand;
+        acts.nextState().tied ^= 1 << strand;
         return claimsNow();
     }
 
@@ -266,7 +266,7 @@ public final class EightReasons {
         if (!told.isStrand(strand) || isTied(strand)) {
             return NONE;
         }
-        acts.advance().tied ^= 1 << strand;
+        acts.nextState().tied ^= 1 << strand;
         return claimsNow();
     }
 
@@ -278,7 +278,7 @@ public final class EightReasons {
         if (old == strong) {
             return NONE;
         }
-        acts.advance().strong[strand] = strong;
+        acts.nextState().strong[strand] = strong;
         return old;
     }
 
@@ -286,7 +286,7 @@ public final class EightReasons {
         if (!isProved(fact)) {
             return NONE;
         }
-        acts.advance().struck ^= 1 << fact;
+        acts.nextState().struck ^= 1 << fact;
         return claimsNow();
     }
 
@@ -294,7 +294,7 @@ public final class EightReasons {
         if (!told.isFact(fact) || isProved(fact)) {
             return NONE;
         }
-        acts.advance().struck ^= 1 << fact;
+        acts.nextState().struck ^= 1 << fact;
         return claimsNow();
     }
 
@@ -302,7 +302,7 @@ public final class EightReasons {
         if (now().day >= MOST_DAYS) {
             return NONE;
         }
-        return acts.advance().pass(told);
+        return acts.nextState().pass(told);
     }
 
     public boolean undo() {
@@ -445,7 +445,8 @@ public final class EightReasons {
     }
 
     private int leastProp(int claim) {
-        if (!isClaimUpNow(claim)) {
+        look();
+        if (!told.isClaim(claim) || !isUp(claim, now().tied)) {
             return NONE;
         }
         return fewest(claim, now().tied, 0, true);
@@ -460,7 +461,7 @@ public final class EightReasons {
         int size = MOST_STRANDS + 1;
         for (int set = 0; set <= some; set++) {
             if ((set & ~some) == 0 && Integer.bitCount(set) < size
-                    && isUp(claim, tied ^ set) == standing) {
+                    && has(loom.standing(tied ^ set), claim) == standing) {
                 found = set;
                 size = Integer.bitCount(set);
             }
@@ -476,11 +477,12 @@ public final class EightReasons {
         if (!told.isClaim(claim)) {
             return NONE;
         }
-        int found = 0;
-        if (!isClaimUpNow(claim)) {
-            return found;
-        }
+        look();
         int tied = now().tied;
+        if (!isUp(claim, tied)) {
+            return 0;
+        }
+        int found = 0;
         for (int strand = 0; strand < told.strands; strand++) {
             if (has(tied, strand) && !isUp(claim, tied ^ 1 << strand)) {
                 found |= 1 << strand;
@@ -490,10 +492,11 @@ public final class EightReasons {
     }
 
     public int perils(int claim, int what) {
-        if (!isZeroOrOne(what) || !isClaimUpNow(claim)) {
+        look();
+        int tied = now().tied;
+        if (!isZeroOrOne(what) || !told.isClaim(claim) || !isUp(claim, tied)) {
             return NONE;
         }
-        int tied = now().tied;
         int found = 0;
         for (int set = 0; set <= tied; set++) {
             if ((set & ~tied) == 0 && Integer.bitCount(set) == what + 1
@@ -914,9 +917,9 @@ public final class EightReasons {
     }
 
     private void findWays(int k) {
-        trial.begin(told);
+        trial.startAs(told);
         loom.take(told, trial);
-        open.find(loom, told.allStrands(), witness, k);
+        open.collect(loom, told.allStrands(), witness, k);
     }
 
     // ---- small questions ----
@@ -945,10 +948,6 @@ public final class EightReasons {
     private int standingNow() {
         look();
         return loom.standing(now().tied);
-    }
-
-    private boolean isClaimUpNow(int claim) {
-        return told.isClaim(claim) && has(standingNow(), claim);
     }
 
     private int claimsNow() {
@@ -1071,7 +1070,7 @@ public final class EightReasons {
         int units;
 
         /** What the words that are units stand for, at their own numbers. */
-        final int[] given = new int[NAME];
+        private final int[] given = new int[NAME];
 
         private final int[] stack = new int[MOST_UNITS];
         private int height;
@@ -1088,7 +1087,12 @@ public final class EightReasons {
             }
         }
 
-        int value() {
+        int value(int strong, int grounds, int burden, int needs, int day) {
+            given[STRONG] = strong;
+            given[GROUNDS] = grounds;
+            given[BURDEN] = burden;
+            given[NEEDS] = needs;
+            given[DAY] = day;
             height = 0;
             for (int i = 0; i < length; i++) {
                 int step = code[i];
@@ -1097,7 +1101,7 @@ public final class EightReasons {
                 } else if (isUnitWord(step)) {
                     push(given[step]);
                 } else if (step == NOT) {
-                    push(asNumber(pop() == 0));
+                    push(pop() == 0 ? 1 : 0);
                 } else {
                     int right = pop();
                     push(joined(step, pop(), right));
@@ -1121,10 +1125,6 @@ public final class EightReasons {
             return stack[height];
         }
 
-        private static int asNumber(boolean is) {
-            return is ? 1 : 0;
-        }
-
         private static int joined(int sign, int left, int right) {
             switch (sign) {
                 case '+':
@@ -1138,15 +1138,15 @@ public final class EightReasons {
                 case '%':
                     return right == 0 ? 0 : left % right;
                 case '<':
-                    return asNumber(left < right);
+                    return left < right ? 1 : 0;
                 case '>':
-                    return asNumber(left > right);
+                    return left > right ? 1 : 0;
                 case '=':
-                    return asNumber(left == right);
+                    return left == right ? 1 : 0;
                 case AND:
-                    return asNumber(left != 0 && right != 0);
+                    return left != 0 && right != 0 ? 1 : 0;
                 case OR:
-                    return asNumber(left != 0 || right != 0);
+                    return left != 0 || right != 0 ? 1 : 0;
                 default:
                     return 0;
             }
@@ -1162,6 +1162,7 @@ public final class EightReasons {
         private int length;
         private Suit suit;
         private final long[] names = new long[MOST_POINTS];
+        private final long[] words = new long[NAME];
 
         /** Bits of the lines' first words that may come once and have come. */
         private int once;
@@ -1177,6 +1178,12 @@ public final class EightReasons {
         Reader(byte[] tape, Suit suit) {
             this.tape = tape;
             this.suit = suit;
+            for (int i = 0; i < WORDS.length() && i / MOST_LETTERS < NAME; i++) {
+                char letter = WORDS.charAt(i);
+                if (letter != ' ') {
+                    words[i / MOST_LETTERS] = words[i / MOST_LETTERS] * 32 + letter - 'a' + 1;
+                }
+            }
         }
 
         boolean read(int bytes, Suit empty) {
@@ -1218,7 +1225,12 @@ public final class EightReasons {
                 name = name * 32 + tape[next] - 'a' + 1;
                 next++;
             }
-            kind = next - at > MOST_LETTERS ? NO_TOKEN : wordAt(at, next - at);
+            kind = next - at > MOST_LETTERS ? NO_TOKEN : NAME;
+            for (int word = 0; word < NAME && kind == NAME; word++) {
+                if (words[word] == name) {
+                    kind = word;
+                }
+            }
         }
 
         private void takeNumber() {
@@ -1229,25 +1241,6 @@ public final class EightReasons {
             }
             boolean joined = next < length && isLetter(tape[next]);
             kind = joined || next - at > MOST_DIGITS ? NO_TOKEN : NUMBER;
-        }
-
-        private int wordAt(int start, int letters) {
-            for (int word = 0; word < NAME; word++) {
-                if (isSpelled(word, start, letters)) {
-                    return word;
-                }
-            }
-            return NAME;
-        }
-
-        private boolean isSpelled(int word, int start, int letters) {
-            for (int i = 0; i < MOST_LETTERS; i++) {
-                int letter = i < letters && start + i < length ? tape[start + i] : ' ';
-                if (WORDS.charAt(word * MOST_LETTERS + i) != letter) {
-                    return false;
-                }
-            }
-            return true;
         }
 
         private static boolean isBlank(int sign) {
@@ -1380,13 +1373,14 @@ public final class EightReasons {
         }
 
         private void readNewName() {
-            if (kind == NAME && find() != NONE) {
+            if (kind != NAME) {
+                refuse();
+            } else if (find() != NONE) {
                 blame(FAULT_NAME);
-            }
-            if (suit.points < names.length) {
+            } else if (suit.points < names.length) {
                 names[suit.points] = name;
+                advance();
             }
-            expect(NAME);
         }
 
         /** The POINT that the TOKEN looked at names, if it is a NAME; it stays the one looked at. */
@@ -1409,10 +1403,13 @@ public final class EightReasons {
 
         private int readNumber(int least, int most) {
             int found = number;
-            if (kind == NUMBER && (found < least || found > most)) {
+            if (kind != NUMBER) {
+                refuse();
+            } else if (found < least || found > most) {
                 blame(FAULT_NUMBER);
+            } else {
+                advance();
             }
-            expect(NUMBER);
             return found;
         }
 
@@ -1502,7 +1499,7 @@ public final class EightReasons {
         int day;
         int seed;
 
-        void begin(Suit suit) {
+        void startAs(Suit suit) {
             System.arraycopy(suit.strong, 0, strong, 0, MOST_STRANDS);
             tied = suit.allStrands();
             struck = 0;
@@ -1550,12 +1547,12 @@ public final class EightReasons {
             }
         }
 
-        State now() {
+        State state() {
             return states[at];
         }
 
         /** The state that an ACT is to change: the present one stays as it is for UNDO. */
-        State advance() {
+        State nextState() {
             State before = states[at];
             at = (at + 1) % LENGTH;
             states[at].copy(before);
@@ -1664,26 +1661,18 @@ public final class EightReasons {
             if (suit.formula.length == 0) {
                 return strong[strand];
             }
-            int grounds = Integer.bitCount(suit.into[suit.target[strand]] & tied);
+            int claim = suit.target[strand];
+            int grounds = Integer.bitCount(suit.into[claim] & tied);
             int burden = Integer.bitCount(suit.from[suit.source[strand]] & tied);
             int cell = (strand * SIDES + grounds) * SIDES + burden;
             if (cell >= known.length) {
-                return compute(strand, grounds, burden);
+                return 0;
             }
             if (known[cell] >> BORNE_BITS != era) {
-                known[cell] = era << BORNE_BITS | compute(strand, grounds, burden);
+                int comes = suit.formula.value(strong[strand], grounds, burden, needs[claim], day);
+                known[cell] = era << BORNE_BITS | Math.max(0, Math.min(MOST_BORNE, comes));
             }
             return known[cell] & (1 << BORNE_BITS) - 1;
-        }
-
-        private int compute(int strand, int grounds, int burden) {
-            int[] given = suit.formula.given;
-            given[STRONG] = strong[strand];
-            given[GROUNDS] = grounds;
-            given[BURDEN] = burden;
-            given[NEEDS] = needs[suit.target[strand]];
-            given[DAY] = day;
-            return Math.max(0, Math.min(MOST_BORNE, suit.formula.value()));
         }
 
         /** The least set: in each round the claims come up for which those before it bear enough. */
@@ -1808,7 +1797,7 @@ public final class EightReasons {
         private final int[] cuts = new int[MOST_WAYS];
         private final int[] ups = new int[MOST_WAYS];
 
-        void find(Loom loom, int strands, Witness witness, int known) {
+        void collect(Loom loom, int strands, Witness witness, int known) {
             count = 0;
             for (int set = 0; set <= strands; set++) {
                 if (Integer.bitCount(set) <= 2) {

@@ -6,7 +6,9 @@ import java.nio.file.Files;
 import java.nio.file.Path;
 import java.util.ArrayList;
 import java.util.List;
+import java.util.Map;
 import java.util.Set;
+import java.util.TreeMap;
 import java.util.TreeSet;
 import java.util.regex.Matcher;
 import java.util.regex.Pattern;
@@ -64,24 +66,69 @@ public final class LanguageTest {
         CHECK.is(!Pattern.compile("\\bdo \\{").matcher(code).find(), "no loop that tells its bound at its end");
     }
 
+    /**
+     * Calls that are no recursion go eight deep at the most: methods that call one another in a circle count as one here. All names differ,
+     * so that a name tells which method is called.
+     */
     private static void methods(String code) {
-        String[] lines = code.split("\n");
-        int from = -1;
-        String head = "";
-        List<String> heads = new ArrayList<>();
-        for (int i = 0; i < lines.length; i++) {
-            if (lines[i].matches("( {4}| {8})(public |private |static |final )*[\\w\\[\\]]+ ?\\w*\\(.*\\{")) {
-                from = i;
-                head = lines[i].trim();
-                heads.add(head);
+        Map<String, String> bodies = new TreeMap<>();
+        String name = "";
+        int indent = 0;
+        StringBuilder body = new StringBuilder();
+        for (String line : code.split("\n")) {
+            CHECK.is(line.length() <= 160, "a line of " + line.length());
+            Matcher head = Pattern.compile("(?: {4}| {8})(?:public |private |static |final )*(?:[\\w\\[\\]]+ )?(\\w+)\\(.*\\) \\{").matcher(line);
+            if (head.matches() && !line.matches(" +(if|for|while|switch) .*")) {
+                name = head.group(1);
+                body.setLength(0);
+                indent = line.length() - line.stripLeading().length();
+            } else if (!name.isEmpty() && line.equals(" ".repeat(indent) + "}")) {
+                CHECK.is(body.chars().filter(c -> c == '\n').count() <= 60, "short: " + name);
+                CHECK.is(bodies.put(name, body.toString()) == null, "a name of one method alone: " + name);
+                name = "";
+            } else {
+                body.append(line).append('\n');
             }
-            if (from >= 0 && lines[i].matches(" {4}( {4})?\\}")) {
-                CHECK.is(i - from <= 60, "short: " + head);
-                from = -1;
-            }
-            CHECK.is(lines[i].length() <= 160, "a line of " + lines[i].length());
         }
-        CHECK.is(heads.size() > 100, "methods are found: " + heads.size());
+        Map<String, Set<String>> calls = new TreeMap<>();
+        for (String one : bodies.keySet()) {
+            calls.put(one, new TreeSet<>());
+            for (String other : bodies.keySet()) {
+                if (Pattern.compile("\\b" + other + "\\(").matcher(bodies.get(one)).find()) {
+                    calls.get(one).add(other);
+                }
+            }
+        }
+        CHECK.is(calls.size() > 120, "methods with their calls: " + calls.size());
+        Map<String, Set<String>> reached = new TreeMap<>();
+        calls.keySet().forEach(one -> reached.put(one, reach(one, calls)));
+        for (String one : calls.keySet()) {
+            CHECK.is(deepest(one, calls, reached) <= 8, "eight deep at the most: " + one + " " + deepest(one, calls, reached));
+        }
+    }
+
+    private static Set<String> reach(String from, Map<String, Set<String>> calls) {
+        Set<String> found = new TreeSet<>();
+        List<String> open = new ArrayList<>(calls.get(from));
+        while (!open.isEmpty()) {
+            String one = open.remove(open.size() - 1);
+            if (found.add(one)) {
+                open.addAll(calls.get(one));
+            }
+        }
+        return found;
+    }
+
+    private static int deepest(String from, Map<String, Set<String>> calls, Map<String, Set<String>> reached) {
+        Set<String> circle = new TreeSet<>(Set.of(from));
+        reached.get(from).stream().filter(other -> reached.get(other).contains(from)).forEach(circle::add);
+        int most = 0;
+        for (String one : circle) {
+            for (String other : calls.get(one)) {
+                most = circle.contains(other) ? most : Math.max(most, deepest(other, calls, reached));
+            }
+        }
+        return most + 1;
     }
 
     private static void classes() {
