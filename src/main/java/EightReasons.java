@@ -78,80 +78,58 @@ public final class EightReasons {
     private static final int FAULT_NUMBER = 4;
     private static final int FAULT_UNKNOWN = 5;
 
-    private final byte[] tape = new byte[MOST_BYTES];
-    private int bytes;
+    private final Reader reader = new Reader();
+    private Suit told = new Suit();
 
-    private Suit told;
-    private Suit unused;
-    private final Reader reader;
-
-    private final Acts acts;
-    private final State trial;
-    private final State[] boxes;
+    private final Acts acts = new Acts();
+    private final State trial = new State();
+    private final State[] boxes = new State[BOXES];
     private int filled;
 
-    private final Loom loom;
+    private final Loom loom = new Loom();
     private final int[] outcomes = new int[MOST_STRANDS * MOST_STRANDS];
 
     private final int[] lying = new int[MOST_POINTS];
     private int lyingCount;
 
-    private final Witness witness;
-    private final Ways open;
+    private final Witness witness = new Witness();
+    private final Ways open = new Ways();
     private int time;
 
     public EightReasons() {
-        told = new Suit();
-        unused = new Suit();
-        reader = new Reader(tape, unused);
-        acts = new Acts();
-        trial = new State();
-        boxes = new State[BOXES];
         for (int i = 0; i < BOXES; i++) {
             boxes[i] = new State();
         }
-        loom = new Loom(told);
-        witness = new Witness();
-        open = new Ways();
     }
 
     // ---- the text ----
 
     public int feed(int a, int b, int c, int d, int e) {
-        if (bytes + BYTES_FED > MOST_BYTES) {
+        if (reader.bytes + BYTES_FED > MOST_BYTES) {
             return NONE;
         }
-        append(a);
-        append(b);
-        append(c);
-        append(d);
-        append(e);
-        return bytes;
-    }
-
-    private void append(int four) {
-        for (int shift = 24; shift >= 0 && bytes < tape.length; shift -= 8) {
-            tape[bytes] = (byte) (four >> shift);
-            bytes++;
-        }
+        reader.append(a);
+        reader.append(b);
+        reader.append(c);
+        reader.append(d);
+        reader.append(e);
+        return reader.bytes;
     }
 
     public int end(int n) {
-        if (n < 0 || n > bytes) {
+        if (n < 0 || n > reader.bytes) {
             return NONE;
         }
-        bytes = n;
+        reader.bytes = n;
         return n;
     }
 
     public int suit() {
-        if (!reader.read(bytes, unused)) {
+        if (!reader.read()) {
             return NONE;
         }
-        Suit old = told;
-        told = unused;
-        unused = old;
-        bytes = 0;
+        told = reader.exchange(told);
+        reader.bytes = 0;
         acts.forget();
         now().startAs(told);
         filled = 0;
@@ -236,7 +214,7 @@ public final class EightReasons {
             case 10:
                 return time;
             case 11:
-                return bytes;
+                return reader.bytes;
             case 12:
                 return told.formula.units;
             case 13:
@@ -1158,9 +1136,14 @@ public final class EightReasons {
         int fault;
         int place = NONE;
 
-        private final byte[] tape;
-        private int length;
-        private Suit suit;
+        /** How many there are on the tape; those behind them are of earlier texts. */
+        int bytes;
+
+        private final byte[] tape = new byte[MOST_BYTES];
+
+        /** The one to be filled: not the one that holds, which a FAULT leaves as it is. */
+        private Suit suit = new Suit();
+
         private final long[] names = new long[MOST_POINTS];
         private final long[] words = new long[NAME];
 
@@ -1175,9 +1158,7 @@ public final class EightReasons {
         /** Eight letters of five bits each fit, so that names are compared as numbers. */
         private long name;
 
-        Reader(byte[] tape, Suit suit) {
-            this.tape = tape;
-            this.suit = suit;
+        Reader() {
             for (int i = 0; i < WORDS.length() && i / MOST_LETTERS < NAME; i++) {
                 char letter = WORDS.charAt(i);
                 if (letter != ' ') {
@@ -1186,9 +1167,21 @@ public final class EightReasons {
             }
         }
 
-        boolean read(int bytes, Suit empty) {
-            length = Math.min(bytes, tape.length);
-            suit = empty;
+        void append(int four) {
+            for (int shift = 24; shift >= 0 && bytes < MOST_BYTES; shift -= 8) {
+                tape[bytes] = (byte) (four >> shift);
+                bytes++;
+            }
+        }
+
+        /** Hands out the suit that was read, and takes another one to be filled next. */
+        Suit exchange(Suit other) {
+            Suit filled = suit;
+            suit = other;
+            return filled;
+        }
+
+        boolean read() {
             suit.clear();
             fault = 0;
             place = NONE;
@@ -1202,11 +1195,11 @@ public final class EightReasons {
         }
 
         private void advance() {
-            while (next < length && isBlank(tape[next])) {
+            while (next < bytes && isBlank(tape[next])) {
                 next++;
             }
             at = next;
-            if (next >= length) {
+            if (next >= bytes) {
                 kind = END;
             } else if (isLetter(tape[next])) {
                 takeWord();
@@ -1221,7 +1214,7 @@ public final class EightReasons {
 
         private void takeWord() {
             name = 0;
-            while (next < length && isLetter(tape[next])) {
+            while (next < bytes && isLetter(tape[next])) {
                 name = name * 32 + tape[next] - 'a' + 1;
                 next++;
             }
@@ -1235,11 +1228,11 @@ public final class EightReasons {
 
         private void takeNumber() {
             number = 0;
-            while (next < length && isDigit(tape[next])) {
+            while (next < bytes && isDigit(tape[next])) {
                 number = number * 10 + tape[next] - '0';
                 next++;
             }
-            boolean joined = next < length && isLetter(tape[next]);
+            boolean joined = next < bytes && isLetter(tape[next]);
             kind = joined || next - at > MOST_DIGITS ? NO_TOKEN : NUMBER;
         }
 
@@ -1601,7 +1594,7 @@ public final class EightReasons {
         private final int[] sum = new int[MOST_POINTS];
         final int[] round = new int[MOST_POINTS];
 
-        private Suit suit;
+        private Suit suit = new Suit();
         private int day;
         private final int[] strong = new int[MOST_STRANDS];
         private final int[] needs = new int[MOST_POINTS];
@@ -1612,10 +1605,6 @@ public final class EightReasons {
          */
         private final int[] known = new int[MOST_STRANDS * SIDES * SIDES];
         private int era;
-
-        Loom(Suit suit) {
-            this.suit = suit;
-        }
 
         void take(Suit told, State state) {
             suit = told;
