@@ -42,4 +42,20 @@ final class Tape {
         }
         return x;
     }
+
+    /** A text that is a SUIT of so many POINTS. */
+    static void good(Check check, String text, int points) {
+        EightReasons x = new EightReasons();
+        check.due(text + ": suit", suit(x, text), points);
+        check.due(text + ": fault", x.fault(0), 0);
+        check.due(text + ": place", x.fault(1), -1);
+    }
+
+    /** A text with a FAULT at a place. */
+    static void bad(Check check, String text, int fault, int place) {
+        EightReasons x = new EightReasons();
+        check.due(text + ": suit", suit(x, text), -1);
+        check.due(text + ": fault", x.fault(0), fault);
+        check.due(text + ": place", x.fault(1), place);
+    }
 }

@@ -82,17 +82,11 @@ public final class TextTest {
     }
 
     private static void good(String text, int points) {
-        EightReasons x = new EightReasons();
-        CHECK.due(text + ": suit", Tape.suit(x, text), points);
-        CHECK.due(text + ": fault", x.fault(0), 0);
-        CHECK.due(text + ": place", x.fault(1), -1);
+        Tape.good(CHECK, text, points);
     }
 
     private static void bad(String text, int fault, int place) {
-        EightReasons x = new EightReasons();
-        CHECK.due(text + ": suit", Tape.suit(x, text), -1);
-        CHECK.due(text + ": fault", x.fault(0), fault);
-        CHECK.due(text + ": place", x.fault(1), place);
+        Tape.bad(CHECK, text, fault, place);
     }
 
     private static void goodTexts() {
