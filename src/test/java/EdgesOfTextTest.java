@@ -37,6 +37,7 @@ public final class EdgesOfTextTest {
         suitMakesAllNew();
         suitBehindSuits();
         faultLeavesAll();
+        fedBehindAFault();
         faultOfTheLatest();
         CHECK.close();
     }
@@ -672,6 +673,17 @@ public final class EdgesOfTextTest {
             CHECK.due("the TAPE stays", x.about(11), text.length());
             CHECK.due("all stays", Snapshot.of(x).replaceFirst("fault \\d+ \\d+", ""), before);
         }
+    }
+
+    // "NONE: a FAULT (all stays)": the TAPE, too, and what is fed then comes behind it
+    private static void fedBehindAFault() {
+        EightReasons x = new EightReasons();
+        Tape.put(x, "fact a");
+        CHECK.due("not at its end yet", x.suit(), -1);
+        CHECK.due("at the end", x.fault(1), 6);
+        CHECK.due("a feed behind it", x.feed(0x3b666163, 0x7420623b, 0x20202020, 0x20202020, 0x20202020), 26);
+        CHECK.due("both facts", x.suit(), 2);
+        CHECK.due("the TAPE is empty", x.about(11), 0);
     }
 
     // "Of the latest suit() what 0: its FAULT (0), 1: its place (NONE). NONE for another what."

@@ -27,6 +27,7 @@ public final class RefusedTest {
         questionsByClaim();
         questionsThatLay();
         questionsBehindQuestions();
+        upTo512Calls();
         CHECK.close();
     }
 
@@ -303,6 +304,26 @@ public final class RefusedTest {
                 CHECK.due("question " + question + " behind " + before, ask(x, question), due);
             }
         }
+    }
+
+    // "An object is used for at most 512 calls after it has been made"
+    private static void upTo512Calls() {
+        EightReasons x = busy();
+        int used = 60;
+        int worth = x.worth(3);
+        int fall = x.fall(2);
+        int law = x.law(4);
+        for (; used + 6 < 512; used += 3) {
+            x.worth(3);
+            x.fall(2);
+            x.law(4);
+        }
+        CHECK.due("worth at the end", x.worth(3), worth);
+        CHECK.due("fall at the end", x.fall(2), fall);
+        CHECK.due("law at the end", x.law(4), law);
+        EightReasons y = busy();
+        CHECK.due("stands at the end", x.stands(), y.stands());
+        CHECK.due("what it BEARS at the end", x.strand(0, 4), y.strand(0, 4));
     }
 
     private static String withoutLying(String snapshot) {
